@@ -412,7 +412,7 @@ public final class LayerHouse {
         if (thingIn(q) instanceof Scale s) {
             Band made = new Band(DOUBLE, a.cells.length);
             for (int k = 0; k < made.cells.length; k++) {
-                made.cells[k] = Real.plus(Real.times(a.turnedTo(DOUBLE, k), s.gain), s.offset);
+                made.cells[k] = Real.plus(Real.times(a.asDouble(k), s.gain), s.offset);
             }
             return finish(r, made, made.cells.length);
         }
@@ -766,10 +766,14 @@ public final class LayerHouse {
             return Cell.turned(cellAt(i), tag, kind);
         }
 
+        long asDouble(int i) {
+            return reaches(i) ? Cell.asDouble(cells[i], tag) : Real.NAN;
+        }
+
         long utmost(boolean greatest) {
-            long found = cells.length == 0 ? Real.NAN : turnedTo(DOUBLE, 0);
+            long found = cells.length == 0 ? Real.NAN : asDouble(0);
             for (int k = 1; k < cells.length; k++) {
-                long x = turnedTo(DOUBLE, k);
+                long x = asDouble(k);
                 found = greatest ? Real.greatest(found, x) : Real.least(found, x);
             }
             return found;
@@ -778,7 +782,7 @@ public final class LayerHouse {
         long sum() {
             long sum = 0;
             for (int k = 0; k < cells.length; k++) {
-                sum = Real.plus(sum, turnedTo(DOUBLE, k));
+                sum = Real.plus(sum, asDouble(k));
             }
             return sum;
         }
@@ -786,7 +790,7 @@ public final class LayerHouse {
         int countOfNaN() {
             int count = 0;
             for (int k = 0; k < cells.length; k++) {
-                if (Real.isNaN(turnedTo(DOUBLE, k))) {
+                if (Real.isNaN(asDouble(k))) {
                     count++;
                 }
             }
@@ -797,7 +801,7 @@ public final class LayerHouse {
             long sum = 0;
             long lost = 0;
             for (int k = 0; k < cells.length; k++) {
-                long x = turnedTo(DOUBLE, k);
+                long x = asDouble(k);
                 if (!Real.isNaN(x)) {
                     long y = Real.minus(x, lost);
                     long t = Real.plus(sum, y);
@@ -924,21 +928,26 @@ public final class LayerHouse {
             if (from == to) {
                 return value;
             }
+            if (to == DOUBLE) {
+                return asDouble(value, from);
+            }
             if (from == FLOAT || from == DOUBLE) {
-                return turnedReal(from == FLOAT ? Real.widened(value) : value, to);
+                return turnedReal(asDouble(value, from), to);
             }
-            if (to == MARK) {
-                return value == 0 ? 0 : 1;
+            if (to == FLOAT) {
+                return Real.ofWhole(FLOAT, value);
             }
-            return to == FLOAT || to == DOUBLE ? Real.ofWhole(to, value) : given(to, value);
+            return to != MARK ? given(to, value) : value == 0 ? 0 : 1;
+        }
+
+        static long asDouble(long value, int from) {
+            return from == DOUBLE ? value : from == FLOAT ? Real.widened(value) : Real.ofWhole(DOUBLE, value);
         }
 
         private static long turnedReal(long d, int to) {
             switch (to) {
                 case FLOAT:
                     return Real.narrowed(d);
-                case DOUBLE:
-                    return d;
                 case MARK:
                     return Real.isZero(d) ? 0 : 1;
                 case LONG:
@@ -1007,8 +1016,8 @@ public final class LayerHouse {
             if (isWhole(kind)) {
                 return Long.compare(a, b);
             }
-            long x = kind == FLOAT ? Real.widened(a) : a;
-            long y = kind == FLOAT ? Real.widened(b) : b;
+            long x = asDouble(a, kind);
+            long y = asDouble(b, kind);
             return Real.isNaN(x) || Real.isNaN(y) ? UNORDERED : Real.compared(x, y);
         }
 
@@ -1274,15 +1283,14 @@ public final class LayerHouse {
             if (isZero(a) && isZero(b)) {
                 return a & b;
             }
-            return (a & WITHOUT_SIGN) >= (b & WITHOUT_SIGN) ? plusLesser(a, b) : plusLesser(b, a);
-        }
-
-        /** Nine bits below the last one are enough for what an exact sum loses to be told by the lowest of them. */
-        private static long plusLesser(long a, long b) {
-            long m = mantissa(a) << 9;
-            long n = shiftedDown(mantissa(b) << 9, power(a) - power(b));
+            boolean isFirstGreater = (a & WITHOUT_SIGN) >= (b & WITHOUT_SIGN);
+            long greater = isFirstGreater ? a : b;
+            long lesser = isFirstGreater ? b : a;
+            // Nine bits more below the last one are enough for the lowest of them to tell of all that is cut off.
+            long m = mantissa(greater) << 9;
+            long n = shiftedDown(mantissa(lesser) << 9, power(greater) - power(lesser));
             long sum = (a ^ b) < 0 ? m - n : m + n;
-            return rounded(DOUBLE, sum != 0 && a < 0, power(a) - 9, sum);
+            return rounded(DOUBLE, sum != 0 && greater < 0, power(greater) - 9, sum);
         }
 
         private static long shiftedDown(long m, int places) {
@@ -1472,28 +1480,26 @@ public final class LayerHouse {
             this.h = band.cells.length / this.w;
         }
 
+        /** What is left over behind the whole lines is in none, so h bounds j and not the cells. */
         private long plain(int i, int j) {
             boolean isThere = i >= 0 && i < w && j >= 0 && j < h;
-            return isThere ? Cell.turned(band.cells[j * w + i], band.tag, DOUBLE) : Real.NAN;
+            return isThere ? Cell.asDouble(band.cells[j * w + i], band.tag) : Real.NAN;
         }
 
-        private long clamped(int i, int j) {
-            return plain(Math.max(0, Math.min(i, w - 1)), Math.max(0, Math.min(j, h - 1)));
-        }
-
-        private boolean isBesideByOne(int i, int j) {
-            return i >= -1 && i <= w && j >= -1 && j <= h;
+        private static int heldBelow(int i, int n) {
+            return Math.max(0, Math.min(i, n - 1));
         }
 
         private long corner(int i, int j) {
-            return isBesideByOne(i, j) ? clamped(i, j) : Real.NAN;
+            boolean isBesideByOne = i >= -1 && i <= w && j >= -1 && j <= h;
+            return isBesideByOne ? plain(heldBelow(i, w), heldBelow(j, h)) : Real.NAN;
         }
 
         long near(int reader, long x, long y) {
             int i = nearest(reader == MIRROR ? Real.withoutSign(x) : x);
             int j = nearest(reader == MIRROR ? Real.withoutSign(y) : y);
             if (reader == HELD) {
-                return clamped(i, j);
+                return plain(heldBelow(i, w), heldBelow(j, h));
             }
             if ((reader == ROUND || reader == MIRROR) && h > 0) {
                 return plain(Math.floorMod(i, w), Math.floorMod(j, h));
