@@ -1508,16 +1508,23 @@ public final class LayerHouse {
         }
 
         private static int nearest(long x) {
-            return (int) Real.toLong(Real.floor(Real.plus(x, Real.HALF)));
+            return wholeBelow(Real.plus(x, Real.HALF));
+        }
+
+        private static int wholeBelow(long x) {
+            return (int) Real.toLong(Real.floor(x));
+        }
+
+        /** A whole 0 has no sign, so -0 lies beyond it by -0; beyond the -0 that is its floor it would lie by 0. */
+        private static long beyond(long x, int whole) {
+            return Real.minus(x, Real.ofWhole(DOUBLE, whole));
         }
 
         long between(long x, long y) {
-            long left = Real.floor(x);
-            long upper = Real.floor(y);
-            int i = (int) Real.toLong(left);
-            int j = (int) Real.toLong(upper);
-            long f = Real.minus(x, left);
-            long g = Real.minus(y, upper);
+            int i = wholeBelow(x);
+            int j = wholeBelow(y);
+            long f = beyond(x, i);
+            long g = beyond(y, j);
             long p = along(f, corner(i, j), corner(i + 1, j));
             long q = along(f, corner(i, j + 1), corner(i + 1, j + 1));
             return along(g, p, q);

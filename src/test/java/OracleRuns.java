@@ -203,7 +203,8 @@ public final class OracleRuns {
     }
 
     private long coordinate() {
-        double d = random.nextInt(6) == 0 ? DOUBLES[random.nextInt(DOUBLES.length)]
+        double d = random.nextInt(12) == 0 ? -0.0
+            : random.nextInt(6) == 0 ? DOUBLES[random.nextInt(DOUBLES.length)]
             : random.nextInt(3) == 0 ? small(-12, 12) / 4.0 : random.nextDouble() * 10 - 3;
         return Double.doubleToRawLongBits(d);
     }

@@ -14,6 +14,8 @@ public final class SampleTest {
         mirror();
         linear();
         linearBeside();
+        linearAtMinusZero();
+        linearOfZeros();
         far();
         noWholeLine();
         kinds();
@@ -114,6 +116,73 @@ public final class SampleTest {
         at(h, LINEAR, 0, 1.5, 20);
         at(h, LINEAR, -1e-300, 0, 10);
         at(h, LINEAR, -0.0, 0, 10);
+    }
+
+    /** i is a whole number, of -0 it is 0: f, g are -0 - 0, which is -0. */
+    private static void linearAtMinusZero() {
+        LayerHouse h = new LayerHouse();
+        Due.doubles(h, 0, -0.0);
+        atWidth(h, 1, -0.0, -0.0, -0.0);
+        atWidth(h, 1, 0.0, -0.0, 0.0);
+        atWidth(h, 1, -0.0, 0.0, 0.0);
+        atWidth(h, 1, 0.0, 0.0, 0.0);
+        Due.doubles(h, 0, -0.0, -1);
+        atWidth(h, 1, -0.0, 0.0, -0.0);
+        atWidth(h, 1, 0.0, 0.0, 0.0);
+        Due.doubles(h, 0, -0.0, -1, -0.0, -1);
+        atWidth(h, 2, 0.0, -0.0, -0.0);
+        atWidth(h, 2, 0.0, 0.0, 0.0);
+        Due.doubles(h, 0, -0.0, 1, -0.0, 1);
+        atWidth(h, 2, -0.0, -0.0, -0.0);
+        atWidth(h, 2, 0.0, -0.0, 0.0);
+        h.band(0, Due.INT, 1);
+        atWidth(h, 1, -0.0, -0.0, 0.0);
+        h.band(0, Due.FLOAT, 1);
+        h.set(0, Due.FLOAT, 0, Due.bits(-0f));
+        atWidth(h, 1, -0.0, -0.0, -0.0);
+    }
+
+    private static void atWidth(LayerHouse h, int w, double x, double y, double due) {
+        Due.yes("29 w " + w + " at " + x + ", " + y, h, h.sample(LINEAR, 0, w, Due.bits(x), Due.bits(y)), Due.bits(due));
+    }
+
+    /** All that zeros of both signs, and small numbers beside them, can come to at and about the whole coordinates. */
+    private static void linearOfZeros() {
+        double[] values = {0.0, -0.0, 1, -1, Double.MIN_VALUE, -Double.MIN_VALUE};
+        double[] coordinates = {0.0, -0.0, Double.MIN_VALUE, -Double.MIN_VALUE, 1, -1, 0.5};
+        for (double a : values) {
+            for (double b : values) {
+                for (double c : values) {
+                    for (double d : values) {
+                        LayerHouse h = new LayerHouse();
+                        Due.doubles(h, 0, a, b, c, d);
+                        for (double x : coordinates) {
+                            for (double y : coordinates) {
+                                atWidth(h, 2, x, y, linearOfFour(new double[] {a, b, c, d}, x, y));
+                            }
+                        }
+                    }
+                }
+            }
+        }
+    }
+
+    private static double linearOfFour(double[] cells, double x, double y) {
+        int i = (int) Math.floor(x);
+        int j = (int) Math.floor(y);
+        double f = x - i;
+        double g = y - j;
+        double a = cells[2 * held(j) + held(i)];
+        double b = cells[2 * held(j) + held(i + 1)];
+        double c = cells[2 * held(j + 1) + held(i)];
+        double d = cells[2 * held(j + 1) + held(i + 1)];
+        double p = a + f * (b - a);
+        double q = c + f * (d - c);
+        return p + g * (q - p);
+    }
+
+    private static int held(int i) {
+        return Math.max(0, Math.min(1, i));
     }
 
     private static void far() {
