@@ -29,27 +29,33 @@ public final class OracleRuns {
         Integer.MIN_VALUE, Long.MAX_VALUE, Long.MIN_VALUE, 16777217, 33554433, 9007199254740993L, -9007199254740993L,
         9223371761976868863L, 36028797018963967L, 0x7fa00001L, 0xff800001L, 0x7ff0000000000001L, 0xfff8000000000001L};
 
+    /** What comes close to 0 from both sides: drawn from so few, the cells of a run meet in all ways. */
+    private static final double[] FEW = {0.0, -0.0, 0.0, -0.0, 1, -1, Double.MIN_VALUE, -Double.MIN_VALUE, Double.NaN};
+
     private final Random random;
     private final LayerHouse house = new LayerHouse();
     private final Oracle oracle = new Oracle();
     private final List<String> calls = new ArrayList<>();
     private final int largest;
+    private final boolean drawsFew;
 
     private OracleRuns(long seed) {
         random = new Random(seed);
         largest = seed % 50 == 0 ? 400 : 6;
+        drawsFew = seed % 3 == 1;
     }
 
     public static void main(String[] args) {
         int wrong = 0;
-        for (long seed = 0; seed < RUNS && wrong < 5; seed++) {
+        int runs = args.length > 0 ? Integer.parseInt(args[0]) : RUNS;
+        for (long seed = 0; seed < runs && wrong < 5; seed++) {
             String fault = new OracleRuns(seed).run();
             if (fault != null) {
                 wrong++;
                 System.out.println("seed " + seed + ": " + fault);
             }
         }
-        System.out.println(RUNS + " runs against the oracle, " + wrong + " wrong");
+        System.out.println(runs + " runs against the oracle, " + wrong + " wrong");
         if (wrong != 0) System.exit(1);
     }
 
@@ -61,10 +67,21 @@ public final class OracleRuns {
             if (fault == null) fault = compare(0, new long[0]);
             if (fault == null) fault = compare(33, new long[0]);
             if (fault == null && method == 30) fault = compareResults();
+            if (fault == null && method == 2 && random.nextInt(4) != 0) fault = fill((int) a[0]);
             if (fault == null && k % 100 == 99) fault = compareState();
             if (fault != null) return fault;
         }
         return null;
+    }
+
+    /** Cells that are all 0 show little of what is reckoned with them. */
+    private String fill(int p) {
+        int kind = oracle.holds(p);
+        String fault = null;
+        for (int i = 0; i < 8 && kind >= 0 && kind < 8 && fault == null; i++) {
+            fault = compare(10, new long[] {p, kind, i, drawsFew ? few(kind) : bits()});
+        }
+        return fault;
     }
 
     private String compare(int method, long[] a) {
@@ -124,6 +141,7 @@ public final class OracleRuns {
         if ((method == 9 || method == 10 || method == 8) && random.nextInt(10) != 0 && a[0] >= 0 && a[0] < 12) {
             int held = oracle.holds((int) a[0]);
             if (held >= 0 && held < 8) a[1] = held;
+            if (method == 10 && drawsFew) a[3] = few((int) a[1]);
         }
         if (method == 29) fillStep(a);
         return a;
@@ -203,10 +221,15 @@ public final class OracleRuns {
     }
 
     private long coordinate() {
-        double d = random.nextInt(12) == 0 ? -0.0
+        double d = random.nextInt(drawsFew ? 2 : 12) == 0 ? (random.nextInt(3) == 0 ? 0.0 : -0.0)
             : random.nextInt(6) == 0 ? DOUBLES[random.nextInt(DOUBLES.length)]
             : random.nextInt(3) == 0 ? small(-12, 12) / 4.0 : random.nextDouble() * 10 - 3;
         return Double.doubleToRawLongBits(d);
+    }
+
+    private long few(int kind) {
+        double d = FEW[random.nextInt(FEW.length)];
+        return kind == 6 ? Double.doubleToRawLongBits(d) : kind == 5 ? Float.floatToRawIntBits((float) d) : (long) d;
     }
 
     private long bits() {
