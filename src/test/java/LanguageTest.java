@@ -121,7 +121,7 @@ public final class LanguageTest {
         h.band(0, Due.DOUBLE, 400);
         h.table(1, 20, 20);
         long before = threads.getThreadAllocatedBytes(Thread.currentThread().getId());
-        for (int call = 0; call < 512; call++) {
+        for (int call = 2; call < 512; call++) {
             if (call % 2 == 0) {
                 h.reckon(3, 0, 0, 2);
             } else {

@@ -5,13 +5,10 @@ import java.util.Random;
 
 /** Seeded runs of calls on LayerHouse and on Oracle; every answer, told() and gone() must agree, and the state at the end. */
 public final class OracleRuns {
-    private static final String[] NAMES = {
-        "told", "holds", "band", "row", "table", "scale", "clear", "keep", "size", "get", "set", "feature", "about",
-        "entry", "enter", "line", "move", "reckon", "compare", "mark", "choose", "turn", "bits", "math", "fuse", "apply",
-        "stat", "sample", "stepOf", "step", "job", "done", "total", "gone"};
+    private static final String[] NAMES = Calls.NAMES;
     private static final int[] WIDTHS = {0, 1, 3, 3, 3, 3, 1, 2, 2, 3, 4, 4, 3, 3, 4, 3, 5, 4, 4, 4, 4, 3, 2, 3, 4, 3, 2, 5, 2, 4, 0, 1, 0, 0};
-    private static final int RUNS = 6000;
-    private static final int CALLS = 300;
+    private static final int RUNS = 12000;
+    private static final int CALLS_AHEAD_OF_STATE = 380;
 
     private static final double[] DOUBLES = {
         0.0, -0.0, 1, -1, 0.5, -0.5, 1.5, 2.5, -2.5, 3, 7, 0.1, 1e9, -1e9, 999999999.5, 1e300, -1e300, 1e-300,
@@ -60,18 +57,17 @@ public final class OracleRuns {
     }
 
     private String run() {
-        for (int k = 0; k < CALLS; k++) {
+        String fault = null;
+        while (fault == null && calls.size() < CALLS_AHEAD_OF_STATE) {
             int method = pickMethod();
             long[] a = arguments(method);
-            String fault = compare(method, a);
+            fault = compare(method, a);
             if (fault == null) fault = compare(0, new long[0]);
             if (fault == null) fault = compare(33, new long[0]);
             if (fault == null && method == 30) fault = compareResults();
             if (fault == null && method == 2 && random.nextInt(4) != 0) fault = fill((int) a[0]);
-            if (fault == null && k % 100 == 99) fault = compareState();
-            if (fault != null) return fault;
         }
-        return null;
+        return fault == null ? compareState() : fault;
     }
 
     /** Cells that are all 0 show little of what is reckoned with them. */
@@ -88,7 +84,7 @@ public final class OracleRuns {
         String call = NAMES[method] + Arrays.toString(a);
         calls.add(call);
         long due = oracle.call(method, a);
-        long got = call(house, method, a);
+        long got = Calls.call(house, NAMES[method], a);
         if (got == due) return null;
         int from = Math.max(0, calls.size() - 30);
         return call + " answered " + got + " (" + Long.toHexString(got) + "), due is " + due + " (" + Long.toHexString(due)
@@ -103,18 +99,21 @@ public final class OracleRuns {
         return fault;
     }
 
+    /** As many cells of all places as the calls that are left can ask. */
     private String compareState() {
         String fault = null;
-        for (int p = 0; p < 12 && fault == null; p++) {
-            fault = compare(1, new long[] {p});
-            int held = oracle.holds(p);
-            for (int i = 0; i < 40 && fault == null && held >= 0; i++) {
-                if (held < 8) {
+        for (int i = 0; fault == null && calls.size() + 24 < Calls.MOST; i++) {
+            for (int p = 0; p < 12 && fault == null; p++) {
+                int held = oracle.holds(p);
+                if (i == 0) fault = compare(1, new long[] {p});
+                if (fault == null && held >= 0 && held < 8) {
                     fault = compare(9, new long[] {p, held, i});
-                } else if (held < 12) {
-                    fault = compare(12, new long[] {p, i, i % 2});
-                } else if (held == 12) {
-                    fault = compare(13, new long[] {p, i % 20, i / 20});
+                } else if (fault == null && held >= 8 && held < 12) {
+                    fault = compare(12, new long[] {p, i, 1});
+                } else if (fault == null && held == 12) {
+                    fault = compare(13, new long[] {p, i % 5, i / 5});
+                } else if (fault == null) {
+                    fault = compare(1, new long[] {p});
                 }
             }
         }
@@ -242,51 +241,6 @@ public final class OracleRuns {
             case 5: return Float.floatToRawIntBits((random.nextInt(2001) - 1000) / 8f);
             case 6: return Double.doubleToRawLongBits(random.nextGaussian() * 1000);
             default: return Double.doubleToRawLongBits(DOUBLES[random.nextInt(DOUBLES.length)]);
-        }
-    }
-
-    private static long bool(boolean b) {
-        return b ? 1 : 0;
-    }
-
-    private static long call(LayerHouse h, int method, long[] a) {
-        int[] i = new int[5];
-        for (int k = 0; k < a.length; k++) i[k] = (int) a[k];
-        switch (NAMES[method]) {
-            case "told": return h.told();
-            case "holds": return h.holds(i[0]);
-            case "band": return bool(h.band(i[0], i[1], i[2]));
-            case "row": return bool(h.row(i[0], i[1], i[2]));
-            case "table": return bool(h.table(i[0], i[1], i[2]));
-            case "scale": return bool(h.scale(i[0], a[1], a[2]));
-            case "clear": return bool(h.clear(i[0]));
-            case "keep": return bool(h.keep(i[0], i[1]));
-            case "size": return h.size(i[0], i[1]);
-            case "get": return h.get(i[0], i[1], i[2]);
-            case "set": return bool(h.set(i[0], i[1], i[2], a[3]));
-            case "feature": return bool(h.feature(i[0], i[1], i[2], i[3]));
-            case "about": return h.about(i[0], i[1], i[2]);
-            case "entry": return h.entry(i[0], i[1], i[2]);
-            case "enter": return bool(h.enter(i[0], i[1], i[2], i[3]));
-            case "line": return bool(h.line(i[0], i[1], i[2]));
-            case "move": return bool(h.move(i[0], i[1], i[2], i[3], i[4]));
-            case "reckon": return bool(h.reckon(i[0], i[1], i[2], i[3]));
-            case "compare": return bool(h.compare(i[0], i[1], i[2], i[3]));
-            case "mark": return bool(h.mark(i[0], i[1], i[2], i[3]));
-            case "choose": return bool(h.choose(i[0], i[1], i[2], i[3]));
-            case "turn": return bool(h.turn(i[0], i[1], i[2]));
-            case "bits": return bool(h.bits(i[0], i[1]));
-            case "math": return bool(h.math(i[0], i[1], i[2]));
-            case "fuse": return bool(h.fuse(i[0], i[1], i[2], i[3]));
-            case "apply": return bool(h.apply(i[0], i[1], i[2]));
-            case "stat": return h.stat(i[0], i[1]);
-            case "sample": return h.sample(i[0], i[1], i[2], a[3], a[4]);
-            case "stepOf": return h.stepOf(i[0], i[1]);
-            case "step": return h.step(i[0], i[1], i[2], i[3]);
-            case "job": return bool(h.job());
-            case "done": return h.done(i[0]);
-            case "total": return h.total();
-            default: return h.gone();
         }
     }
 }
