@@ -19,6 +19,9 @@ public final class BeyondTest {
         nearestOfFloats();
         endsOfMath();
         overflow();
+        middlesOfDoubles();
+        middlesOfFloats();
+        wholesTurnedToDoubles();
         farAway();
         besideTheBand();
         Due.end("BeyondTest");
@@ -296,6 +299,96 @@ public final class BeyondTest {
         c.giveFloats(3, -Float.MAX_VALUE, Float.MAX_VALUE, 0f, -0f);
         c.ask("fuse", 0, 1, 3, 2);
         c.floats("26 the product is rounded to a FLOAT first", 2, Float.POSITIVE_INFINITY, Float.NEGATIVE_INFINITY, 0f, -0f);
+    }
+
+    private static void reckons(int op, double a, double b, double due) {
+        Calls c = new Calls();
+        c.giveDoubles(0, a);
+        c.giveDoubles(1, b);
+        c.yes("19", "reckon", op, 0, 1, 2);
+        c.doubles("19 op " + op + " of " + a + ", " + b, 2, due);
+    }
+
+    /** "rounded to the nearest, even in the middle": at the middle, and beside it by as little as there is. */
+    private static void middlesOfDoubles() {
+        double ulp = Math.ulp(1.0);
+        reckons(0, 1, ulp / 2, 1);
+        reckons(0, 1, Math.nextUp(ulp / 2), 1 + ulp);
+        reckons(0, 1 + ulp, ulp / 2, 1 + 2 * ulp);
+        reckons(0, 1 + ulp, Math.nextDown(ulp / 2), 1 + ulp);
+        reckons(1, 1, ulp / 4, 1);
+        reckons(1, 1, Math.nextUp(ulp / 4), 1 - ulp / 2);
+        reckons(1, 1, Double.MIN_VALUE, 1);
+        reckons(2, 134217729, 67108865, 9007199456067584.0);
+        double[] mantissas = {1, 1 + ulp, 1 + 2 * ulp, 1.5, 1.5 + ulp, 1.5 - ulp, 2 - ulp, 2 - 2 * ulp, 1 + 0x1p-26, 1 + 0x1p-27, 1 + 0x1p-26 + ulp, 4 / 3.0,
+            1.2345678901234567};
+        int[] apart = {0, 1, 2, 9, 10, 51, 52, 53, 54, 55, 56, 62, 63, 64, 65, 1000};
+        for (double a : mantissas) {
+            for (double m : mantissas) {
+                for (int power : apart) {
+                    double b = Math.scalb(m, -power);
+                    reckons(0, a, b, a + b);
+                    reckons(1, a, b, a - b);
+                    reckons(1, b, a, b - a);
+                    reckons(2, a, b, a * b);
+                    reckons(3, a, b, a / b);
+                    reckons(3, b, a, b / a);
+                }
+            }
+        }
+    }
+
+    private static void middlesOfFloats() {
+        float ulp = Math.ulp(1f);
+        float[] mantissas = {1, 1 + ulp, 1 + 2 * ulp, 1.5f, 1.5f + ulp, 2 - ulp, 1 + 0x1p-12f, 1 + 0x1p-11f, 4 / 3f};
+        int[] apart = {0, 1, 2, 22, 23, 24, 25, 26, 62, 100};
+        for (float a : mantissas) {
+            for (float m : mantissas) {
+                for (int power : apart) {
+                    float b = Math.scalb(m, -power);
+                    float[] due = {a + b, a - b, a * b, a / b};
+                    Calls c = new Calls();
+                    c.giveFloats(0, a);
+                    c.giveFloats(1, b);
+                    for (int op = 0; op < 4; op++) {
+                        c.yes("19", "reckon", op, 0, 1, 2);
+                        c.floats("19 op " + op + " of the FLOATS " + a + ", " + b, 2, due[op]);
+                    }
+                }
+            }
+        }
+        roots();
+    }
+
+    private static void roots() {
+        double[] given = {2, 3, 4, 0.25, Math.nextUp(4.0), Math.nextDown(4.0), Math.nextUp(1.0), Math.nextDown(1.0), Double.MAX_VALUE, Double.MIN_VALUE,
+            3 * Double.MIN_VALUE, Double.MIN_NORMAL, 9007199254740993.0, 1e-310, 0x1.fffffffffffffp500, 0x1.fffffffffffffp501};
+        for (double x : given) {
+            maths(5, x, Math.sqrt(x));
+            maths(5, (float) x, (float) Math.sqrt((float) x));
+        }
+        maths(5, 4.0, 2.0);
+        maths(5, INF, INF);
+    }
+
+    /** A LONG that no DOUBLE tells is rounded as it is TURNED, ahead of all that is done with it. */
+    private static void wholesTurnedToDoubles() {
+        Calls c = new Calls();
+        c.give(0, Due.LONG, 9007199254740993L, -9007199254740993L, MAX);
+        c.answers("28 least", Due.bits(-9007199254740992.0), "stat", 0, 0);
+        c.answers("28 greatest", Due.bits(TWO_63), "stat", 1, 0);
+        c.answers("29 NEAR", Due.bits(9007199254740992.0), "sample", 0, 0, 1, 0, 0);
+        c.yes("25", "math", 0, 0, 1);
+        c.doubles("25 without its sign", 1, 9007199254740992.0, 9007199254740992.0, TWO_63);
+        c.ask("scale", 2, Due.bits(1.0), Due.bits(1.0));
+        c.yes("27", "apply", 0, 2, 1);
+        c.doubles("27 plus 1", 1, 9007199254740992.0, -9007199254740991.0, TWO_63);
+        c.giveFloats(3, 1f, 1f, 1f);
+        c.yes("22", "compare", 4, 0, 3, 4);
+        c.yes("22", "choose", 4, 3, 0, 5);
+        c.floats("22 LONGS as FLOATS", 5, 9007199254740992f, -9007199254740992f, (float) TWO_63);
+        c.yes("26", "fuse", 3, 3, 0, 5);
+        c.doubles("26 FLOATS and LONGS", 5, 9007199254740992.0, -9007199254740991.0, TWO_63);
     }
 
     /** "Of an x or y that is NaN, or 1e9 or more without sign, all READERS give NaN." */

@@ -135,7 +135,12 @@ public final class FullTest {
             c.answers("29 beyond", Due.bits(Double.NaN), "sample", 0, 0, w, Due.bits(w - 1.0), Due.bits(400.0 / w));
         }
         c.answers("29 21 lines of 19, one cell left over", Due.bits(0.0), "sample", 1, 0, 19, Due.bits(18.0), Due.bits(99.0));
-        c.answers("30 full", 800, "stepOf", 3, 400);
+        for (int w : widths) {
+            int[] steps = {1, 1, w, 2 * w, 1};
+            for (int reader = 0; reader < 5; reader++) {
+                c.answers("30 full", steps[reader], "stepOf", reader, w);
+            }
+        }
     }
 
     private static void fullRow(int sort) {

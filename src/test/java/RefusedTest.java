@@ -6,6 +6,7 @@ public final class RefusedTest {
             goneBehindGoodOne(act);
         }
         questionsLeaveAll();
+        noneIsAnAnswer();
         unfitFeatures();
         unfitIsMovedUpToTheFirst();
         unfitLines();
@@ -70,6 +71,30 @@ public final class RefusedTest {
             }
             Due.is("2 " + name + " told", c.ask("told"), Due.ZERO);
             c.went("35 " + name, 2);
+        }
+    }
+
+    /** "NONE with a FAULT (a cell's BITS may be -1, too)", and so may numbers: told() alone tells them apart. */
+    private static void noneIsAnAnswer() {
+        Calls c = new Calls();
+        int[] kinds = {Due.BYTE, Due.SHORT, Due.INT, Due.LONG};
+        for (int kind : kinds) {
+            c.give(0, kind, -1);
+            c.answers("11 -1", -1, "get", 0, kind, 0);
+            c.ask("step", 5, 0, kind, 0);
+            c.yes("32 ADD of -1", "job");
+            Due.is("34 -1", c.ask("total"), -1);
+        }
+        int[] numbers = {-1, 0, Integer.MIN_VALUE, Integer.MAX_VALUE};
+        for (int number : numbers) {
+            c.ask("row", 1, 0, 1);
+            c.yes("13 any number", "feature", 1, 0, 3, number);
+            for (int what = 1; what < 4; what++) {
+                c.answers("14 any number", number, "about", 1, 0, what);
+            }
+            c.ask("table", 2, 1, 1);
+            c.yes("16 any number", "enter", 2, 0, 0, number);
+            c.answers("15 any number", number, "entry", 2, 0, 0);
         }
     }
 
