@@ -1,7 +1,7 @@
 /** What there is ahead of all, and where there is nothing: BANDS, ROWS, TABLES, LINES and JOBS of none, grids without a line. */
 public final class EmptyTest {
     private static final double NAN = Double.NaN;
-    private static final int ONE_PLACE = 1;
+    private static final int TARGET = 1;
 
     public static void main(String[] args) {
         atFirst();
@@ -197,13 +197,13 @@ public final class EmptyTest {
                 } else {
                     c.ask("row", 0, from - Stock.ROW, 2);
                 }
-                Stock.put(c, ONE_PLACE, to, 2);
-                c.yes("18 VOID", "move", 0, 0, ONE_PLACE, 0, 2);
+                Stock.put(c, TARGET, to, 2);
+                c.yes("18 VOID", "move", 0, 0, TARGET, 0, 2);
                 for (int i = 0; i < 2; i++) {
                     if (to == Stock.TABLE) {
-                        c.no("18 VOID", Due.MISSING, "entry", ONE_PLACE, i, 0);
+                        c.no("18 VOID", Due.MISSING, "entry", TARGET, i, 0);
                     } else {
-                        c.no("18 VOID", Due.MISSING, "about", ONE_PLACE, i, 0);
+                        c.no("18 VOID", Due.MISSING, "about", TARGET, i, 0);
                     }
                 }
             }
