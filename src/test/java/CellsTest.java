@@ -71,7 +71,7 @@ public final class CellsTest {
         Due.wholes(h, 0, Due.MARK, 1, 2, 3, -1, 0);
         Due.holds("12 MARK", h, 0, Due.MARK, 1, 0, 1, 1, 0);
         Due.wholes(h, 0, Due.FLOAT, 0x3f800000L, 0x80000000L, 0x123f800000L, 0x7f800001L, 0xffc00001L, 0xff800000L, -1);
-        Due.holds("12 FLOAT", h, 0, Due.FLOAT, 0x3f800000L, (int) 0x80000000, 0x3f800000L, 0x7fc00000L, 0x7fc00000L, (int) 0xff800000, 0x7fc00000L);
+        Due.holds("12 FLOAT", h, 0, Due.FLOAT, 0x3f800000L, 0x80000000, 0x3f800000L, 0x7fc00000L, 0x7fc00000L, 0xff800000, 0x7fc00000L);
         Due.wholes(h, 0, Due.DOUBLE, 0x3ff0000000000000L, Long.MIN_VALUE, 0x7ff0000000000001L, -1, 0xfff0000000000000L);
         Due.holds("12 DOUBLE", h, 0, Due.DOUBLE, 0x3ff0000000000000L, Long.MIN_VALUE, 0x7ff8000000000000L, 0x7ff8000000000000L, 0xfff0000000000000L);
     }

@@ -124,7 +124,7 @@ public final class TurnTest {
         Due.yes("24 bits", h, h.bits(0, 1));
         Due.holdsFloats("24 INT", h, 1, 1f, Float.NaN, -0f, FINF, 1.4e-45f);
         h.bits(1, 2);
-        Due.holds("24 FLOAT", h, 2, Due.INT, 0x3f800000, 0x7fc00000, (int) 0x80000000, 0x7f800000, 1);
+        Due.holds("24 FLOAT", h, 2, Due.INT, 0x3f800000, 0x7fc00000, 0x80000000, 0x7f800000, 1);
         Due.wholes(h, 0, Due.LONG, 0x3ff0000000000000L, -1, Long.MIN_VALUE, 1);
         h.bits(0, 0);
         Due.holdsDoubles("24 LONG, r may be p", h, 0, 1, NAN, -0.0, Double.MIN_VALUE);
